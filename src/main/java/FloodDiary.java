@@ -120,7 +120,8 @@ public final class FloodDiary {
         }
         tryFlood();
         trial.mendSteps(MOST_STEPS);
-        return trial.pages.takeValue(page);
+        trial.pages.takeIntoHand(page);
+        return trial.pages.valueInHand(page);
     }
 
     public int firstNeeded() {
@@ -136,7 +137,8 @@ public final class FloodDiary {
         }
         trial.become(now);
         trial.tearAllOpen();
-        return trial.pages.takeValue(page);
+        trial.pages.takeIntoHand(page);
+        return trial.pages.valueInHand(page);
     }
 
     // ---- texts
@@ -170,7 +172,10 @@ public final class FloodDiary {
             return BAD_TEXT;
         }
         history.prepare(now);
-        int carried = orders.obeyedBy(now);
+        int carried = 0;
+        while (carried < orders.length() && orders.obey(carried, now) >= 0) {
+            carried++;
+        }
         pad.empty();
         return history.record(carried);
     }
@@ -296,16 +301,11 @@ public final class FloodDiary {
             return isInHand(page) ? handMark[page] : NONE;
         }
 
-        /** Returns the value in hand of a page that is taken into hand for it. */
-        int takeValue(int page) {
-            takeIntoHand(page);
-            return valueInHand(page);
-        }
-
-        /** Returns the mark in hand of a page that is taken into hand for it. */
-        int takeMark(int page) {
-            takeIntoHand(page);
-            return markInHand(page);
+        /** Takes the page into hand from the shelf, if it is not in hand already. */
+        void takeIntoHand(int page) {
+            if (isPage(page) && !isInHand(page)) {
+                change(page, shelfValue[page], shelfMark[page]);
+            }
         }
 
         void change(int page, int value, int mark) {
@@ -333,12 +333,6 @@ public final class FloodDiary {
                 highest = Math.max(highest, shelfMark[page]);
             }
             return highest;
-        }
-
-        private void takeIntoHand(int page) {
-            if (isPage(page) && !isInHand(page)) {
-                change(page, shelfValue[page], shelfMark[page]);
-            }
         }
     }
 
@@ -531,56 +525,30 @@ public final class FloodDiary {
         void readAnew(Diary diary) {
             size = 0;
             for (int entry = 1; entry <= diary.size; entry++) {
-                take(diary, entry);
+                take(entry, diary.kindOf(entry), diary.workOf(entry), diary.pageOf(entry), diary.nextOf(entry));
             }
         }
 
-        void take(Diary diary, int entry) {
-            int work = diary.workOf(entry);
-            if (diary.kindOf(entry) == BEGUN) {
-                open(work);
-            }
-            if (has(work)) {
-                last[work] = entry;
-                entries[work]++;
-                follow(diary, work, entry);
-            }
-        }
-
-        private void open(int work) {
-            if (work >= 0 && work < ALL_WORKS) {
+        /** Takes in what an entry tells of its work. */
+        void take(int entry, int kind, int work, int page, int next) {
+            if (kind == BEGUN && work >= 0 && work < ALL_WORKS) {
                 size = work + 1;
-                states[work] = OPEN;
                 entries[work] = 0;
                 pageSets[work] = 0;
             }
-        }
-
-        private void follow(Diary diary, int work, int entry) {
-            switch (diary.kindOf(entry)) {
-                case WRITTEN:
-                    pageSets[work] |= 1 << diary.pageOf(entry);
-                    goOn[work] = entry;
-                    break;
-                case BACK:
-                    goOn[work] = diary.nextOf(entry);
-                    break;
-                case DONE:
-                    close(work, FINISHED);
-                    break;
-                case LEFT:
-                    close(work, TORN);
-                    break;
-                default:
-                    goOn[work] = entry;
-                    break;
+            if (!has(work)) {
+                return;
             }
-        }
-
-        private void close(int work, int state) {
-            states[work] = state;
-            pageSets[work] = 0;
-            goOn[work] = 0;
+            boolean ends = kind == DONE || kind == LEFT;
+            states[work] = kind == DONE ? FINISHED : kind == LEFT ? TORN : OPEN;
+            last[work] = entry;
+            entries[work]++;
+            goOn[work] = ends ? 0 : kind == BACK ? next : entry;
+            if (ends) {
+                pageSets[work] = 0;
+            } else if (kind == WRITTEN) {
+                pageSets[work] |= 1 << page;
+            }
         }
 
         int about(int work, int what) {
@@ -647,10 +615,12 @@ public final class FloodDiary {
             if (diary.isFull()) {
                 return TOO_MANY;
             }
-            if (mending || !works.isOpen(work) || isHeldByAnother(work, page)) {
+            int holder = works.holderOf(page);
+            if (mending || !works.isOpen(work) || holder != NONE && holder != work) {
                 return NOT_POSSIBLE;
             }
-            int before = pages.takeValue(page);
+            pages.takeIntoHand(page);
+            int before = pages.valueInHand(page);
             enterOnPage(WRITTEN, work, page, before, value, NONE);
             return before;
         }
@@ -681,7 +651,9 @@ public final class FloodDiary {
             if (diary.size + steps > MOST_ENTRIES) {
                 return TOO_MANY;
             }
-            takeSteps(work, steps);
+            for (int step = 0; step < steps; step++) {
+                stepBack(work);
+            }
             return steps;
         }
 
@@ -744,7 +716,12 @@ public final class FloodDiary {
             mendingBegun = true;
             int made = 0;
             while (made < steps && isAnythingLeft()) {
-                makeStep();
+                if (findAgain()) {
+                    doAgain(again);
+                    again++;
+                } else {
+                    stepBack(works.nextToTakeBack());
+                }
                 made++;
             }
             stepsMade += made;
@@ -757,8 +734,9 @@ public final class FloodDiary {
 
         void tearAllOpen() {
             for (int work = 0; work < works.size; work++) {
-                if (works.isOpen(work)) {
-                    takeSteps(work, stepsToTear(work));
+                int steps = works.isOpen(work) ? stepsToTear(work) : 0;
+                for (int step = 0; step < steps; step++) {
+                    stepBack(work);
                 }
             }
         }
@@ -804,21 +782,16 @@ public final class FloodDiary {
             }
         }
 
-        private boolean isHeldByAnother(int work, int page) {
-            int holder = works.holderOf(page);
-            return holder != NONE && holder != work;
-        }
-
         private int enter(int kind, int work) {
             int entry = diary.add(kind, work, works.lastOf(work));
-            works.take(diary, entry);
+            works.take(entry, kind, work, NONE, NONE);
             return entry;
         }
 
         private void enterOnPage(int kind, int work, int page, int before, int then, int next) {
             int entry = diary.add(kind, work, works.lastOf(work));
             diary.tellPage(entry, page, before, then, next);
-            works.take(diary, entry);
+            works.take(entry, kind, work, page, next);
             pages.change(page, then, entry);
         }
 
@@ -828,12 +801,6 @@ public final class FloodDiary {
                 enterOnPage(BACK, work, diary.pageOf(from), NONE, diary.beforeOf(from), diary.earlierOf(from));
             } else {
                 enter(LEFT, work);
-            }
-        }
-
-        private void takeSteps(int work, int steps) {
-            for (int step = 0; step < steps; step++) {
-                stepBack(work);
             }
         }
 
@@ -853,9 +820,10 @@ public final class FloodDiary {
             works.readAnew(diary);
         }
 
-        // In mending, what is saved is what the diary had behind the flood: all that mending
-        // enters is saved only when it is through.
-        private boolean isAnyLeftAgain() {
+        /** Moves on to the next entry that has to be done again; returns whether there is one. */
+        private boolean findAgain() {
+            // What mending enters is saved only when it is through, so up to then what is saved
+            // is what the diary had behind the flood.
             while (again <= diary.saved && !isChange(diary.kindOf(again))) {
                 again++;
             }
@@ -863,21 +831,13 @@ public final class FloodDiary {
         }
 
         private boolean isAnythingLeft() {
-            return isAnyLeftAgain() || works.nextToTakeBack() != NONE;
-        }
-
-        private void makeStep() {
-            if (isAnyLeftAgain()) {
-                doAgain(again);
-                again++;
-            } else {
-                stepBack(works.nextToTakeBack());
-            }
+            return findAgain() || works.nextToTakeBack() != NONE;
         }
 
         private void doAgain(int entry) {
             int page = diary.pageOf(entry);
-            if (pages.takeMark(page) < entry) {
+            pages.takeIntoHand(page);
+            if (pages.markInHand(page) < entry) {
                 pages.change(page, diary.thenOf(entry), entry);
             }
         }
@@ -1026,16 +986,12 @@ public final class FloodDiary {
             }
         }
 
-        /** Returns how many orders were carried out ahead of the first that returned an error. */
-        int obeyedBy(State state) {
-            int carried = 0;
-            while (carried < size && obey(state, carried) >= 0) {
-                carried++;
-            }
-            return carried;
+        int length() {
+            return size;
         }
 
-        private int obey(State state, int order) {
+        /** Carries one order out on the state; returns the answer of its call. */
+        int obey(int order, State state) {
             if (order < 0 || order >= MOST_CHARACTERS) {
                 return NONE;
             }
