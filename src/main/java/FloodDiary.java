@@ -954,8 +954,8 @@ public final class FloodDiary {
             size = 0;
         }
 
-        /** Returns the character, or 0, which no text holds, where there is none. */
-        char at(int index) {
+        /** Returns the character's code, or 0, which no text holds, where there is none. */
+        int at(int index) {
             return index >= 0 && index < size ? text[index] : 0;
         }
     }
@@ -963,7 +963,7 @@ public final class FloodDiary {
     /** The orders that a text tells, read from left to right up to its fault. */
     private static final class Orders {
         // An order has one character at least, so there are never more orders than characters.
-        private final char[] verbs = new char[MOST_CHARACTERS];
+        private final int[] verbs = new int[MOST_CHARACTERS];
         private final int[] numbers = new int[MOST_CHARACTERS];
         private final int[] pages = new int[MOST_CHARACTERS];
         private final int[] values = new int[MOST_CHARACTERS];
@@ -1009,7 +1009,7 @@ public final class FloodDiary {
         }
 
         private void readOrder(Pad pad) {
-            char verb = pad.at(place);
+            int verb = pad.at(place);
             if (fault != NONE || size >= MOST_CHARACTERS) {
                 return;
             }
@@ -1044,7 +1044,7 @@ public final class FloodDiary {
 
         // Behind a fault these read no farther, so that it stays the first one.
 
-        private void expect(Pad pad, char due) {
+        private void expect(Pad pad, int due) {
             if (fault != NONE) {
                 return;
             }
@@ -1084,8 +1084,8 @@ public final class FloodDiary {
             return number;
         }
 
-        private static boolean isDigit(char character) {
-            return character >= '0' && character <= '9';
+        private static boolean isDigit(int code) {
+            return code >= '0' && code <= '9';
         }
     }
 }

@@ -373,6 +373,9 @@ public final class PromisesTest {
         duePage(x, 0, 1, 2, 1, 1, 2, 0);
         x = made("b;f0;x;m1");
         due("mended without steps", x.count(3), 0);
+        x = made("b;w0>0=1;w0>0=2;p0;f0;x;m1");
+        duePage(x, 0, 2, 3, 1, 2, 3, 0);
+        due("the page has a greater mark", x.count(5), 1);
     }
 
     private static void mendOrder() {
@@ -755,6 +758,55 @@ public final class PromisesTest {
         duePage(x, 0, 0, 0, 1, 1, 2, 1, 0);
         dueCounts(x, 1, 2, 2, 0, 0, 0, 0);
         undoOfMany();
+        undoOfEach();
+    }
+
+    /** What a work with two entries on page 2 tells, all of which undo() brings back. */
+    private static void dueBefore(FloodDiary x) {
+        dueCounts(x, 2, 4, 1, 0, 0, 0, 0, 4, 3);
+        duePage(x, 2, 0, 0, 1, 6, 4, 1, 0);
+        dueWork(x, 0, 0, 4, 3, 4, 4);
+        dueWork(x, 1, 0, 2, 1, 0, 2);
+        dueEntry(x, 4, 1, 0, 3, 2, 5, 6, NONE, 0);
+    }
+
+    private static void undoOfEach() {
+        FloodDiary x = made("b;b;w0>2=5;w0>2=6;s1");
+        x.keep(0);
+        dueBefore(x);
+        due("begin()", x.begin(), 2);
+        due("undo() of begin", x.undo(), 1);
+        dueBefore(x);
+        due("write", x.write(1, 3, 9), 0);
+        due("undo() of write", x.undo(), 1);
+        dueBefore(x);
+        due("finish(0)", x.finish(0), 5);
+        due("undo() of finish", x.undo(), 1);
+        dueBefore(x);
+        due("tear(0)", x.tear(0), 3);
+        due("undo() of tear", x.undo(), 1);
+        dueBefore(x);
+        due("save(4)", x.save(4), 4);
+        due("undo() of save", x.undo(), 1);
+        dueBefore(x);
+        due("putAway(2)", x.putAway(2), 4);
+        due("undo() of putAway", x.undo(), 1);
+        dueBefore(x);
+        due("flood()", x.flood(), 3);
+        due("undo() of flood", x.undo(), 1);
+        dueBefore(x);
+        x.flood();
+        due("bring(0)", x.bring(0), 4);
+        dueBefore(x);
+        due("undo() of bring", x.undo(), 2);
+        due("count(1)", x.count(1), 1);
+        x.mend(1);
+        x.undo();
+        x.undo();
+        dueBefore(x);
+        due("carryOut()", carryPad(x, "t0;t1;x"), 3);
+        due("undo() of carryOut", x.undo(), 1);
+        dueBefore(x);
     }
 
     private static void undoOfMany() {
@@ -772,6 +824,13 @@ public final class PromisesTest {
         due("count(10)", x.count(10), 1);
         due("undo()", x.undo(), 0);
         due("count(0)", x.count(0), 3);
+        for (int i = 0; i < 7; i++) {
+            due("write", x.write(0, i, 5), 0);
+        }
+        for (int left = 5; left >= 0; left--) {
+            due("undo() of write", x.undo(), left);
+            due("count(1)", x.count(1), 4 + left);
+        }
     }
 
     private static void keep() {
@@ -817,5 +876,12 @@ public final class PromisesTest {
         x.undo();
         due("undo() of bring", x.undo(), 3);
         dueCounts(x, 2, 5, 4, 0, 1, 3, 0, 1, 2, 3, 3);
+        x = made("b;w0>1=4;w0>1=5;t0;s5;x;m3;x;m4");
+        x.keep(1);
+        x.mend(9);
+        x.bring(1);
+        duePage(x, 1, 0, 0, 1, 0, 5, 1, NONE);
+        dueWork(x, 0, 0, 5, 5, 2, 1);
+        dueEntry(x, 5, 2, 0, 4, 1, NONE, 0, 1, 1);
     }
 }

@@ -10,6 +10,7 @@ import java.util.List;
 import java.util.Set;
 import java.util.TreeMap;
 import java.util.TreeSet;
+import java.util.regex.Matcher;
 import java.util.regex.Pattern;
 
 /** The face of the class, and the rules of LANGUAGE.md that can be read from the class and its text. */
@@ -116,19 +117,17 @@ public final class RulesTest {
         for (String pattern : FORBIDDEN) {
             check.holds("nothing like " + pattern, !Pattern.compile(pattern).matcher(text).find());
         }
-        int depth = 0;
-        int start = 0;
-        int line = 0;
-        for (String row : text.split("\n")) {
-            line++;
-            if (row.matches("\\s+.*\\) \\{") && row.startsWith("    ") && !row.matches("\\s*(if|for|while|switch|\\}).*")) {
-                start = line;
-            }
-            if (row.matches("( {4}| {8})\\}") && start != 0) {
-                depth = Math.max(depth, line - start);
-                start = 0;
-            }
+        int longest = longestMethod(text);
+        check.holds("the longest method, of " + longest + " lines, is short", longest > 5 && longest <= 60);
+    }
+
+    /** Relies on the indentation: a head stands 4 or 8 blanks in, its closing bracket as far. */
+    private static int longestMethod(String text) {
+        Matcher method = Pattern.compile("(?m)^( {4}| {8})\\w[^;\\n]*\\) \\{\\n(?:\\1 .*\\n|\\s*\\n)*\\1\\}$").matcher(text);
+        int longest = 0;
+        while (method.find()) {
+            longest = Math.max(longest, method.group().split("\n").length);
         }
-        check.holds("the longest method has " + depth + " lines", depth > 5 && depth <= 60);
+        return longest;
     }
 }
