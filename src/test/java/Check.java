@@ -1,5 +1,7 @@
 /** Counts and prints the answers that are not the ones that are due. */
 final class Check {
+    private static final int MOST_PRINTED = 60;
+
     private int wrong = 0;
     private int made = 0;
     private String topic = "";
@@ -11,16 +13,21 @@ final class Check {
     void due(String call, long got, long want) {
         made++;
         if (got != want) {
-            wrong++;
-            System.out.println(topic + ": " + call + " answered " + got + ", due is " + want);
+            tellWrong(call + " answered " + got + ", due is " + want);
         }
     }
 
     void holds(String what, boolean yes) {
         made++;
         if (!yes) {
-            wrong++;
-            System.out.println(topic + ": " + what + " does not hold");
+            tellWrong(what + " does not hold");
+        }
+    }
+
+    private void tellWrong(String what) {
+        wrong++;
+        if (wrong <= MOST_PRINTED) {
+            System.out.println(topic + ": " + what);
         }
     }
 

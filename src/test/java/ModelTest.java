@@ -1,8 +1,12 @@
 import java.util.Random;
+import java.util.function.ToIntFunction;
 
-/** Makes the same calls on FloodDiary and on PlainDiary, and compares every answer. */
+/**
+ * Makes the same calls on FloodDiary and on PlainDiary, and compares every answer; on each object 512 at most,
+ * as what later calls answer is free.
+ */
 public final class ModelTest {
-    private static final int RUNS = 160, CALLS = 512;
+    private static final int RUNS = 4000, CALLS = 512;
     private static final int[] ODD = {-1, 8, 16, 1000, -7, Integer.MAX_VALUE, Integer.MIN_VALUE, 1 << 30};
     private static final String CHARACTERS = "bwftpsxm;>=0123456789;;;bwf>=b~!";
 
@@ -29,17 +33,22 @@ public final class ModelTest {
     }
 
     private void run() {
+        // Some runs change much and ask little: they come to full diaries. Others ask much about little.
+        int questions = below(6);
         while (calls < CALLS && check.wrong() == 0) {
             change();
-            // The second diary is slow with many entries.
-            if (plain.count(1) < 60 || below(5) == 0) {
-                compareAll();
+            for (int i = below(questions + 1); i > 0; i--) {
+                ask();
             }
         }
     }
 
-    private void due(String call, long got, long want) {
-        check.due("call " + calls + " " + call, got, want);
+    /** Makes a call on both, unless the object has been used up. */
+    private void both(String call, ToIntFunction<FloodDiary> one, ToIntFunction<PlainDiary> other) {
+        if (calls < CALLS) {
+            calls++;
+            check.due("call " + calls + " " + call, one.applyAsInt(diary), other.applyAsInt(plain));
+        }
     }
 
     private int below(int bound) {
@@ -61,7 +70,6 @@ public final class ModelTest {
     }
 
     private void change() {
-        calls++;
         boolean broken = plain.count(3) == 1;
         int kind = below(100);
         if (broken && below(3) != 0) {
@@ -69,22 +77,21 @@ public final class ModelTest {
             int many = 1 + below(5);
             int choice = below(10);
             if (choice < 5) {
-                due("mend " + steps, diary.mend(steps), plain.mend(steps));
+                both("mend " + steps, d -> d.mend(steps), p -> p.mend(steps));
             } else if (choice < 8) {
-                due("blur " + many, diary.blur(many), plain.blur(many));
+                both("blur " + many, d -> d.blur(many), p -> p.blur(many));
             } else {
-                due("flood", diary.flood(), plain.flood());
+                both("flood", d -> d.flood(), p -> p.flood());
             }
             return;
         }
         if (temper == 3 && !broken && plain.count(1) < 148 && kind != 0) {
             grow();
         } else if (kind < 8) {
-            due("begin", diary.begin(), plain.begin());
+            both("begin", d -> d.begin(), p -> p.begin());
         } else if (kind < (temper == 2 ? 78 : 50)) {
             int work = work(), page = page(), value = below(30) == 0 ? ODD[below(ODD.length)] : below(1000);
-            due("write " + work + " " + page + " " + value,
-                diary.write(work, page, value), plain.write(work, page, value));
+            both("write " + work + " " + page + " " + value, d -> d.write(work, page, value), p -> p.write(work, page, value));
         } else {
             rarerChange(kind % 25);
         }
@@ -95,15 +102,15 @@ public final class ModelTest {
         int open = plain.count(8);
         int entries = plain.count(1);
         if (open == 0 && plain.count(0) == 16) {
-            due("undo", diary.undo(), plain.undo());
+            both("undo", d -> d.undo(), p -> p.undo());
         } else if (open == 0 || below(40) == 0) {
-            due("begin", diary.begin(), plain.begin());
+            both("begin", d -> d.begin(), p -> p.begin());
         } else if (below(8) == 0 && entries > 0) {
-            due("save " + entries, diary.save(entries), plain.save(entries));
+            both("save " + entries, d -> d.save(entries), p -> p.save(entries));
         } else {
             int work = below(2) == 0 ? Integer.numberOfTrailingZeros(open) : 31 - Integer.numberOfLeadingZeros(open);
             int page = below(8), value = below(1000);
-            due("write " + work + " " + page, diary.write(work, page, value), plain.write(work, page, value));
+            both("write " + work + " " + page, d -> d.write(work, page, value), p -> p.write(work, page, value));
         }
     }
 
@@ -112,19 +119,19 @@ public final class ModelTest {
         int steps = below(3) == 0 ? some(3) : some(1001);
         int entry = below(3) == 0 ? some(302) : plain.count(1) - below(4);
         switch (kind) {
-            case 0, 1 -> due("finish " + work, diary.finish(work), plain.finish(work));
-            case 2, 3 -> due("tear " + work, diary.tear(work), plain.tear(work));
-            case 4, 5, 6 -> due("save " + entry, diary.save(entry), plain.save(entry));
-            case 7, 8, 9 -> due("putAway " + page, diary.putAway(page), plain.putAway(page));
-            case 10 -> due("flood", diary.flood(), plain.flood());
-            case 11 -> due("blur " + steps, diary.blur(steps), plain.blur(steps));
-            case 12 -> due("mend " + steps, diary.mend(steps), plain.mend(steps));
+            case 0, 1 -> both("finish " + work, d -> d.finish(work), p -> p.finish(work));
+            case 2, 3 -> both("tear " + work, d -> d.tear(work), p -> p.tear(work));
+            case 4, 5, 6 -> both("save " + entry, d -> d.save(entry), p -> p.save(entry));
+            case 7, 8, 9 -> both("putAway " + page, d -> d.putAway(page), p -> p.putAway(page));
+            case 10 -> both("flood", d -> d.flood(), p -> p.flood());
+            case 11 -> both("blur " + steps, d -> d.blur(steps), p -> p.blur(steps));
+            case 12 -> both("mend " + steps, d -> d.mend(steps), p -> p.mend(steps));
             case 13, 14, 15, 16 -> putSome();
-            case 17 -> due("wipe", diary.wipe(), plain.wipe());
-            case 18, 19 -> due("carryOut", diary.carryOut(), plain.carryOut());
-            case 20, 21 -> due("undo", diary.undo(), plain.undo());
-            case 22 -> due("keep " + slot, diary.keep(slot), plain.keep(slot));
-            case 23 -> due("bring " + slot, diary.bring(slot), plain.bring(slot));
+            case 17 -> both("wipe", d -> d.wipe(), p -> p.wipe());
+            case 18, 19 -> both("carryOut", d -> d.carryOut(), p -> p.carryOut());
+            case 20, 21 -> both("undo", d -> d.undo(), p -> p.undo());
+            case 22 -> both("keep " + slot, d -> d.keep(slot), p -> p.keep(slot));
+            case 23 -> both("bring " + slot, d -> d.bring(slot), p -> p.bring(slot));
             default -> putOrders();
         }
     }
@@ -138,11 +145,15 @@ public final class ModelTest {
         if (below(8) == 0) {
             characters = random.nextLong() >>> below(64);
         }
-        due("put " + characters, diary.put(characters), plain.put(characters));
+        put(characters);
+    }
+
+    private void put(long characters) {
+        both("put " + characters, d -> d.put(characters), p -> p.put(characters));
     }
 
     private void putOrders() {
-        due("wipe", diary.wipe(), plain.wipe());
+        both("wipe", d -> d.wipe(), p -> p.wipe());
         StringBuilder text = new StringBuilder();
         for (int i = below(12); i >= 0; i--) {
             text.append(text.length() == 0 ? "" : ";").append(order());
@@ -155,11 +166,10 @@ public final class ModelTest {
             for (int i = at; i < Math.min(at + 8, text.length()); i++) {
                 characters = characters << 8 | text.charAt(i);
             }
-            due("put of " + text, diary.put(characters), plain.put(characters));
-            calls++;
+            put(characters);
         }
-        due("fault of " + text, diary.fault(), plain.fault());
-        due("carryOut of " + text, diary.carryOut(), plain.carryOut());
+        both("fault of " + text, d -> d.fault(), p -> p.fault());
+        both("carryOut of " + text, d -> d.carryOut(), p -> p.carryOut());
     }
 
     private String order() {
@@ -176,31 +186,21 @@ public final class ModelTest {
         };
     }
 
-    private void compareAll() {
-        for (int what = -1; what <= 11; what++) {
-            due("count " + what, diary.count(what), plain.count(what));
+    /** Asks one question about what there is, or what if. */
+    private void ask() {
+        int page = below(10) - 1, work = below(plain.count(0) + 2) - 1, entries = plain.count(1);
+        int entry = below(2) == 0 ? below(entries + 2) : entries + 1 - below(8);
+        int ofPage = below(9) - 1, ofWork = below(7) - 1, ofEntry = below(10) - 1, count = below(13) - 1;
+        switch (below(12)) {
+            case 0, 1 -> both("count " + count, d -> d.count(count), p -> p.count(count));
+            case 2, 3 -> both("ofPage " + page + " " + ofPage, d -> d.ofPage(page, ofPage), p -> p.ofPage(page, ofPage));
+            case 4, 5 -> both("ofWork " + work + " " + ofWork, d -> d.ofWork(work, ofWork), p -> p.ofWork(work, ofWork));
+            case 6, 7 -> both("ofEntry " + entry + " " + ofEntry,
+                d -> d.ofEntry(entry, ofEntry), p -> p.ofEntry(entry, ofEntry));
+            case 8 -> both("wouldBe " + page, d -> d.wouldBe(page), p -> p.wouldBe(page));
+            case 9 -> both("settled " + page, d -> d.settled(page), p -> p.settled(page));
+            case 10 -> both("stepsToMend", d -> d.stepsToMend(), p -> p.stepsToMend());
+            default -> both("firstNeeded", d -> d.firstNeeded(), p -> p.firstNeeded());
         }
-        for (int page = -1; page <= 8; page++) {
-            for (int what = -1; what <= 7; what++) {
-                due("ofPage " + page + " " + what, diary.ofPage(page, what), plain.ofPage(page, what));
-            }
-            due("wouldBe " + page, diary.wouldBe(page), plain.wouldBe(page));
-            due("settled " + page, diary.settled(page), plain.settled(page));
-        }
-        int works = plain.count(0);
-        for (int work = -1; work <= works; work++) {
-            for (int what = -1; what <= 5; what++) {
-                due("ofWork " + work + " " + what, diary.ofWork(work, what), plain.ofWork(work, what));
-            }
-        }
-        int entries = plain.count(1);
-        for (int entry = Math.max(-1, entries - 3 - below(12)); entry <= entries + 1; entry++) {
-            for (int what = -1; what <= 8; what++) {
-                due("ofEntry " + entry + " " + what, diary.ofEntry(entry, what), plain.ofEntry(entry, what));
-            }
-        }
-        due("stepsToMend", diary.stepsToMend(), plain.stepsToMend());
-        due("firstNeeded", diary.firstNeeded(), plain.firstNeeded());
-        due("fault", diary.fault(), plain.fault());
     }
 }

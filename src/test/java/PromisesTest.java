@@ -1,9 +1,5 @@
 /** Each promise of the document, told by hand: ordinary inputs, the edges that it names, wrong inputs. */
-public final class PromisesTest {
-    private static final int NO_SUCH = -1, BAD_VALUE = -2, BAD_TEXT = -3, TOO_MANY = -4, NOT_POSSIBLE = -5, NONE = -6;
-    private static final int LOWEST = Integer.MIN_VALUE, HIGHEST = Integer.MAX_VALUE;
-    private static final Check check = new Check();
-
+public final class PromisesTest extends Told {
     private PromisesTest() { }
 
     public static void main(String[] args) {
@@ -36,81 +32,6 @@ public final class PromisesTest {
         keep();
         bring();
         check.end();
-    }
-
-    private static void due(String call, long got, long want) {
-        check.due(call, got, want);
-    }
-
-    /** Carries out a text of orders, and checks that all of them were carried out. */
-    private static FloodDiary made(String text) {
-        FloodDiary x = new FloodDiary();
-        carry(x, text);
-        return x;
-    }
-
-    private static void carry(FloodDiary x, String text) {
-        int orders = 0;
-        StringBuilder pad = new StringBuilder();
-        for (String order : text.split(";")) {
-            if (pad.length() + 1 + order.length() > 80) {
-                due("carryOut of " + pad, carryPad(x, pad.toString()), orders);
-                orders = 0;
-                pad.setLength(0);
-            }
-            pad.append(pad.length() == 0 ? "" : ";").append(order);
-            orders++;
-        }
-        due("carryOut of " + pad, carryPad(x, pad.toString()), orders);
-    }
-
-    private static int carryPad(FloodDiary x, String text) {
-        type(x, text);
-        return x.carryOut();
-    }
-
-    private static void type(FloodDiary x, String text) {
-        for (int at = 0; at < text.length(); at += 8) {
-            long characters = 0;
-            for (int i = at; i < Math.min(at + 8, text.length()); i++) {
-                characters = characters << 8 | text.charAt(i);
-            }
-            x.put(characters);
-        }
-    }
-
-    private static void dueCounts(FloodDiary x, int... want) {
-        for (int what = 0; what < want.length; what++) {
-            due("count(" + what + ")", x.count(what), want[what]);
-        }
-    }
-
-    private static void duePage(FloodDiary x, int page, int... want) {
-        for (int what = 0; what < want.length; what++) {
-            due("ofPage(" + page + ", " + what + ")", x.ofPage(page, what), want[what]);
-        }
-    }
-
-    private static void dueWork(FloodDiary x, int work, int... want) {
-        for (int what = 0; what < want.length; what++) {
-            due("ofWork(" + work + ", " + what + ")", x.ofWork(work, what), want[what]);
-        }
-    }
-
-    private static void dueEntry(FloodDiary x, int entry, int... want) {
-        for (int what = 0; what < want.length; what++) {
-            due("ofEntry(" + entry + ", " + what + ")", x.ofEntry(entry, what), want[what]);
-        }
-    }
-
-    /** One work that wrote so often, alternately on pages 0 and 1. */
-    private static FloodDiary written(int times) {
-        FloodDiary x = new FloodDiary();
-        x.begin();
-        for (int i = 0; i < times; i++) {
-            x.write(0, i % 2, i);
-        }
-        return x;
     }
 
     private static void newObject() {
@@ -638,12 +559,6 @@ public final class PromisesTest {
         due("wipe() again", x.wipe(), 0);
         type(x, "b");
         due("fault()", x.fault(), NONE);
-    }
-
-    private static int faultOf(String text) {
-        FloodDiary x = new FloodDiary();
-        type(x, text);
-        return x.fault();
     }
 
     private static void fault() {
