@@ -21,6 +21,7 @@ public final class FloodDiary {
     private static final int MOST_CHARACTERS = 80;
     private static final int CHARACTERS_A_CALL = 8;
     private static final int LOWEST_CODE = 33, HIGHEST_CODE = 126;
+    private static final int MOST_DIGITS = 3;
     private static final int MOST_UNDONE = 6;
     private static final int ALL_SLOTS = 2;
 
@@ -1077,7 +1078,7 @@ public final class FloodDiary {
             int number = pad.at(place) - '0';
             place++;
             // A digit that cannot stand here is left to what is expected next, which finds the fault in it.
-            while (number > 0 && number < 100 && isDigit(pad.at(place))) {
+            for (int digits = 1; digits < MOST_DIGITS && number > 0 && isDigit(pad.at(place)); digits++) {
                 number = 10 * number + pad.at(place) - '0';
                 place++;
             }
